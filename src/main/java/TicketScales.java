@@ -940,7 +940,7 @@ public final class TicketScales {
             int weight = 0;
             int latest = -1;
             for (int i = 0; i < MOST_PRIZES; i++) {
-                latest = nextDearer(latest);
+                latest = nextByPrice(latest);
                 Prize row = prizeAt(latest);
                 if (row != null) {
                     int taken = Math.min(row.stock, quotient(left, row.price));
@@ -959,19 +959,19 @@ public final class TicketScales {
             }
         }
 
-        /** The prize behind another one by ascending prices, then numbers (-1: the first one); prizeCount if none is. */
-        private int nextDearer(int latest) {
+        /** The next prize by ascending prices, then numbers; the first one behind -1, prizeCount behind the last one. */
+        private int nextByPrice(int latest) {
             int next = prizeCount;
             for (int i = 0; i < MOST_PRIZES; i++) {
-                if (isDearer(i, latest) && (next == prizeCount || isDearer(next, i))) {
+                if (isBehind(i, latest) && (next == prizeCount || isBehind(next, i))) {
                     next = i;
                 }
             }
             return next;
         }
 
-        /** Whether a prize stands behind another one by price, then number; every prize stands behind none. */
-        private boolean isDearer(int prize, int other) {
+        /** Whether a prize comes behind another one by price, then number; behind -1 comes every prize. */
+        private boolean isBehind(int prize, int other) {
             Prize row = prizeAt(prize);
             Prize otherRow = prizeAt(other);
             if (row == null) {
@@ -1190,7 +1190,7 @@ public final class TicketScales {
             return previous;
         }
 
-        /** The number of commands, or FAILURE_BASE minus the place of the failure, then the counter is half changed. */
+        /** The number of commands, or FAILURE_BASE minus the place of a failure; what ran ahead of it is left to be undone. */
         int runOn(Counter counter) {
             at = 0;
             // Every command has signs of its own, so there are fewer commands than signs.

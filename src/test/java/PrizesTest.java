@@ -65,6 +65,23 @@ public final class PrizesTest {
         x.undo();
         x.undo();
         Due.due("undone", x.prize(4, 0), 6);
+        afterASale();
+    }
+
+    /** The last of six prizes is removed when it has been sold; the next one begins anew. */
+    private static void afterASale() {
+        TicketScales x = new TicketScales();
+        x.come(9999);
+        for (int i = 0; i < 6; i++) {
+            x.addPrize(1, 10, 20, 25, 13);
+        }
+        x.buy(0, 5, 7);
+        Due.due("boxes of the removed one", x.prize(5, 6), 2);
+        Due.due("sold weight of the removed one", x.prize(5, 5), 20);
+        x.removePrize(5);
+        Due.due("the next one", x.addPrize(1, 10, 20, 25, 13), 5);
+        Due.due("boxes of the next one", x.prize(5, 6), 0);
+        Due.due("sold weight of the next one", x.prize(5, 5), 0);
     }
 
     private static void promise13SetPrice() {

@@ -66,8 +66,10 @@ public final class ProgramsTest {
         Due.due("kept count", x.customer(1, 2), 100);
         Due.due("kept reading", x.customer(1, 3), 90000);
         Due.due("kept guess", x.customer(1, 4), 100);
-        Due.due("claim", Due.run(x, "claim 1 99;"), 0 - 1000 + 1001);
+        Due.due("claim", Due.run(x, "claim 1 99;"), 1);
         Due.due("not kept", x.customer(1, 4), Due.NONE);
+        Due.due("weigh exactly", Due.run(x, "scale 1 0;weigh 0 2 7;"), 2);
+        Due.due("the deviation is 0", x.customer(0, 3), 6300);
         Due.due("buy", Due.run(x, "buy 1 0 2;"), 1);
         Due.due("points then", x.customer(1, 0), 890);
         Due.due("boxes", x.prize(0, 6), 1);
@@ -130,7 +132,13 @@ public final class ProgramsTest {
         Due.due("customers", x.count(5), 1);
         Due.due("snapshots", x.count(11), 1);
         Due.due("run() again", x.run(), -1000 - text.indexOf("come 10000"));
-        Due.due("undo()", x.undo(), 3);
+        x.setFee(7);
+        x.setFee(8);
+        Due.due("undo() of what came later", x.undo(), 4);
+        Due.due("fee", x.count(4), 7);
+        Due.due("bias still", x.count(2), 20);
+        x.undo();
+        Due.due("undo()", x.undo(), 2);
         Due.due("undone", x.count(2), 0);
     }
 
@@ -168,6 +176,14 @@ public final class ProgramsTest {
         grammar("rules 1;", 0, 0);
         grammar("rul 1;", 0, 0);
         grammar("bias 1;", 0, 0);
+        grammar("find 0 100 0;", 0, 0);
+        grammar("kinf 0 100 0;", 0, 0);
+        grammar("xcale 1 1;", 0, 0);
+        grammar("dome 1;", 0, 0);
+        grammar("price 1 1 1 1 1;", 0, 0);
+        grammar("come 1;weight 0 0 1;", 7, 1);
+        grammar("come 1;blaim 0 1;", 7, 1);
+        grammar("come 1;guy 0 0 1;", 7, 1);
         grammar("  fee 1;", 2, 0);
         grammar(";", 0, 0);
         grammar(" ;", 1, 0);
