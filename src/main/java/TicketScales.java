@@ -566,15 +566,17 @@ public final class TicketScales {
             boxes = 0;
         }
 
-        /** All boxes that are due are delivered at once: the stock stops at the same number. */
+        /**
+         * All boxes that are due are delivered at once: the stock stops at the same number. They have 9900000
+         * pieces at most, as no more than the weight of 99 pieces is sold and a box has no more than 100000.
+         */
         void sell(int pieces) {
             stock -= pieces;
             sold += pieces * weight;
             int due = quotient(sold, mark);
             sold -= due * mark;
             boxes += due;
-            // By long, as a light mark and a heavy box give more pieces than an int holds.
-            stock = (int) Math.min((long) MOST_STOCK, stock + (long) due * quotient(box, weight));
+            stock = Math.min(MOST_STOCK, stock + due * quotient(box, weight));
         }
 
         /** Sells piece by piece, so only a copy of a prize is asked. */

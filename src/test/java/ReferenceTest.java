@@ -45,8 +45,8 @@ public final class ReferenceTest {
             return;
         }
         calls++;
-        String text = "run " + run + ", call " + calls + ": " + NAMES[call] + Arrays.toString(a);
-        Due.due(text, answer(call, a), referenceAnswer(call, a));
+        String text = "run " + run + ", call " + calls + ": " + Calls.text(NAMES[call], a);
+        Due.due(text, Calls.answer(x, NAMES[call], a), referenceAnswer(call, a));
     }
 
     private int chosen() {
@@ -202,45 +202,6 @@ public final class ReferenceTest {
 
     private String spaces() {
         return " ".repeat(Math.max(0, random.nextInt(4) - 1) / 2);
-    }
-
-    private int answer(int call, int[] a) {
-        switch (call) {
-            case 0: return x.setKind(a[0], a[1], a[2]);
-            case 1: return x.setScale(a[0], a[1]);
-            case 2: return x.setBias(a[0]);
-            case 3: return x.setRule(a[0]);
-            case 4: return x.setFee(a[0]);
-            case 5: return x.come(a[0]);
-            case 6: return x.leave(a[0]);
-            case 7: return x.weigh(a[0], a[1], a[2], a[3]);
-            case 8: return x.claim(a[0], a[1]);
-            case 9: return x.addPrize(a[0], a[1], a[2], a[3], a[4]);
-            case 10: return x.removePrize(a[0]);
-            case 11: return x.setPrice(a[0], a[1]);
-            case 12: return x.buy(a[0], a[1], a[2]);
-            case 13: return x.take(a[0]);
-            case 14: return x.restore(a[0]);
-            case 15: return x.undo();
-            case 16: return x.append(a[0]);
-            case 17: return x.clearText();
-            case 18: return x.run();
-            case 19: return x.failure(a[0]);
-            case 20: return x.count(a[0]);
-            case 21: return x.kind(a[0], a[1]);
-            case 22: return x.customer(a[0], a[1]);
-            case 23: return x.prize(a[0], a[1]);
-            case 24: return x.read(a[0]);
-            case 25: return x.allowed(a[0], a[1], a[2]);
-            case 26: return x.guess(a[0], a[1], a[2]);
-            case 27: return x.apartUpTo(a[0]);
-            case 28: return x.bestStep(a[0], a[1]);
-            case 29: return x.mixed(a[0], a[1], a[2], a[3]);
-            case 30: return x.would(a[0]);
-            case 31: return x.fairest();
-            case 32: return x.soldOut(a[0]);
-            default: return x.shop(a[0], a[1]);
-        }
     }
 
     private int referenceAnswer(int call, int[] a) {

@@ -48,23 +48,9 @@ public final class SnapshotsTest {
         return x;
     }
 
-    private static String view(TicketScales x) {
-        StringBuilder text = new StringBuilder();
-        for (int what = 0; what <= 10; what++) {
-            text.append(x.count(what)).append(' ');
-        }
-        for (int row = 0; row < 6; row++) {
-            text.append('/').append(x.kind(row, 0)).append(' ').append(x.kind(row, 1));
-            for (int what = 0; what <= 6; what++) {
-                text.append(' ').append(x.customer(row, what)).append(' ').append(x.prize(row, what));
-            }
-        }
-        return text.toString();
-    }
-
     private static void promise16RestoresAll() {
         TicketScales x = full();
-        String before = view(x);
+        String before = View.ofCounter(x);
         x.take(1);
         Due.type(x, "rule 2;");
         x.setKind(3, 600, 5);
@@ -80,22 +66,22 @@ public final class SnapshotsTest {
         x.setPrice(0, 8);
         x.buy(0, 0, 1);
         x.removePrize(1);
-        String later = view(x);
+        String later = View.ofCounter(x);
         Due.isTrue("much has changed", !later.equals(before));
         Due.due("points", x.restore(1), x.count(9));
-        Due.isTrue("all is as it was", view(x).equals(before));
+        Due.isTrue("all is as it was", View.ofCounter(x).equals(before));
         Due.due("the text stays", x.count(13), 7);
         Due.due("restore is an action", x.count(12), 5);
         Due.due("the snapshot stays", x.count(11), 1);
         x.setRule(3);
         x.leave(1);
         x.restore(1);
-        Due.isTrue("all is as it was again", view(x).equals(before));
+        Due.isTrue("all is as it was again", View.ofCounter(x).equals(before));
         x.undo();
         x.undo();
         x.undo();
         x.undo();
-        Due.isTrue("undone to what was before the first restore", view(x).equals(later));
+        Due.isTrue("undone to what was before the first restore", View.ofCounter(x).equals(later));
     }
 
     private static void promise16Errors() {
@@ -131,12 +117,12 @@ public final class SnapshotsTest {
         Due.due("undo()", x.undo(), 0);
         Due.due("fee at first", x.count(4), 13);
         TicketScales y = full();
-        String before = view(y);
+        String before = View.ofCounter(y);
         y.leave(1);
         y.removePrize(0);
         y.undo();
         y.undo();
-        Due.isTrue("undo restores all", view(y).equals(before));
+        Due.isTrue("undo restores all", View.ofCounter(y).equals(before));
     }
 
     private static void promise17SnapshotsBelongToTheState() {
