@@ -82,8 +82,11 @@ public final class CustomerEdgesTest {
             Due.due("a sixth", x.customer(5, 0), Due.BAD);
             Due.due("customers", x.count(5), 5);
             Due.due("kept", x.count(7), 5);
+            int all = x.count(9);
             Due.due("come", x.come(3), 5);
             points(x, 5, 3);
+            points(x, 4, gone < 5 ? 515 : 414);
+            Due.due("all points", x.count(9), all + 3);
             keepsNothing(x, 5);
         }
     }

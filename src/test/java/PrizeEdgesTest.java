@@ -78,7 +78,11 @@ public final class PrizeEdgesTest {
             }
             Due.due("a sixth", x.prize(5, 0), Due.BAD);
             Due.due("prizes", x.count(6), 5);
+            int stocks = x.prize(0, 2) + x.prize(1, 2) + x.prize(2, 2) + x.prize(3, 2) + x.prize(4, 2);
+            Due.due("stocks", x.count(10), stocks);
             Due.due("addPrize", x.addPrize(9, 8, 7, 6, 5), 5);
+            Due.due("stocks then", x.count(10), stocks + 7);
+            Due.due("the one ahead of it", x.prize(4, 0), before[gone < 5 ? 5 : 4][0]);
             int[] due = {9, 8, 7, 6, 5, 0, 0};
             for (int what = 0; what < 7; what++) {
                 Due.due("prize(5, " + what + ")", x.prize(5, what), due[what]);

@@ -12,6 +12,7 @@ public final class ProgramEdgesTest {
         atMost140();
         everyCharacter();
         clearingTheText();
+        nothingBehindTheText();
         possiblyNone();
         asTheCalls();
         theDeviationIsZero();
@@ -122,6 +123,27 @@ public final class ProgramEdgesTest {
         Due.due("rule", x.count(3), 1);
     }
 
+    /** What an earlier and longer text had there is not read. */
+    private static void nothingBehindTheText() {
+        String[] texts = {"rule 1", "rule ", "rule", "rul", "ru", "r", "rule 1;rule 2", "rule 1;rule ", "rule 1;r"};
+        int[] places = {6, 5, 4, 0, 0, 0, 13, 12, 7};
+        for (int i = 0; i < texts.length; i++) {
+            TicketScales x = new TicketScales();
+            Due.type(x, "rule 1;rule 2;rule 3;");
+            x.clearText();
+            fails(x, texts[i], 1, places[i], Due.NONE, texts[i].length() > 7 ? 1 : 0);
+            TicketScales y = new TicketScales();
+            Due.due("run", Due.run(y, "rule 1;rule 2;rule 3;"), 3);
+            fails(y, texts[i], 1, places[i], Due.NONE, texts[i].length() > 7 ? 1 : 0);
+        }
+        TicketScales x = new TicketScales();
+        Due.run(x, "come 1234;");
+        Due.due("fewer digits", Due.run(x, "come 12"), -1007);
+        x.append(';');
+        Due.due("run", x.run(), 1);
+        Due.due("points", x.customer(1, 0), 12);
+    }
+
     /** "commands (possibly none)"; "also without commands" */
     private static void possiblyNone() {
         runs("", 0);
@@ -209,7 +231,8 @@ public final class ProgramEdgesTest {
     private static void wordsAlone() {
         String[] others = {"undo", "take", "restore", "leave", "fee", "bias", "run", "set", "setkind", "setrule", "addprize", "price",
             "kin", "kinds", "ind", "xkind", "scal", "scales", "rul", "ruler", "com", "comes", "priz", "prizes", "weig", "weight", "clai",
-            "claims", "bu", "buyx", "a", "z", "b", "k", "bus", "claix", "weigx", "prizx", "comx", "rulx", "scalx"};
+            "claims", "bu", "buyx", "a", "z", "b", "k", "bus", "claix", "weigx", "prizx", "comx", "rulx", "scalx",
+            "xind", "xcale", "xule", "xome", "xrize", "xeigh", "xlaim", "xuy", "kinx", "kxnd", "scxle", "ruxe", "cxme", "prxze", "bxy"};
         for (String word : others) {
             grammar(word + " 1 1 1;", 0, 0);
             grammar("rule 1; " + word + " 1;", 8, 1);

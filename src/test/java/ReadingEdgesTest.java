@@ -67,6 +67,9 @@ public final class ReadingEdgesTest {
         // 1996 (n + 1) is above 1998 n up to n = 997, so 998 and 999 are not told apart.
         apart(1997, 1, 1, 0, 998);
         apart(1999, 1, 1, 0, 999);
+        // Readings beyond 3000000, which allowed() does not take, are readings too: 4997 (n + 1) is above 5003 n up to n = 832.
+        apart(5000, 3, 1, 0, 833);
+        apart(5000, 2, 1, 0, 999);
     }
 
     /** "such that no reading allows two different ones": one reading is enough, be it an end of both. */

@@ -4,8 +4,8 @@ import java.util.function.Supplier;
 public final class StateEdgesTest {
     private static final String[] ACTIONS = {"setKind", "setScale", "setBias", "setRule", "setFee", "come", "leave", "weigh", "claim",
         "addPrize", "removePrize", "setPrice", "buy", "take", "restore", "run"};
-    private static final int[][] ARGUMENTS = {{3, 700, 7}, {7, 9}, {5}, {3}, {99}, {6}, {1}, {1, 2, 9, 3}, {0, 102},
-        {2, 3, 4, 5, 6}, {0}, {1, 77}, {0, 1, 2}, {0}, {1}, {}};
+    private static final int[][] ARGUMENTS = {{3, 700, 7}, {7, 9}, {5}, {3}, {99}, {6}, {1}, {1, 0, 300, -2900}, {0, 100},
+        {2, 3, 4, 5, 6}, {0}, {1, 77}, {0, 0, 2}, {0}, {1}, {}};
 
     private StateEdgesTest() {
     }
@@ -25,6 +25,7 @@ public final class StateEdgesTest {
         twoSlots();
         inPlaceOfOneThatIsThere();
         aSnapshotKeepsAllThis();
+        everyNumberIsBroughtBack();
         nothingElseChanges();
         theSnapshotStays();
         snapshotsBelongToTheState();
@@ -306,6 +307,89 @@ public final class StateEdgesTest {
         }
     }
 
+    /** Each number of a state is another one here than in a new object. */
+    private static TicketScales unlikeNew() {
+        TicketScales x = new TicketScales();
+        x.setKind(3, 500, 50);
+        x.setScale(10, 300);
+        x.setBias(-7);
+        x.setRule(1);
+        x.setFee(8);
+        x.come(4000);
+        x.come(44);
+        x.weigh(1, 3, 400, 10);
+        x.addPrize(7, 10, 20, 25, 13);
+        x.buy(0, 0, 7);
+        x.buy(0, 0, 2);
+        return x;
+    }
+
+    private static void isUnlikeNew(TicketScales x, String when) {
+        // The least count that the reading 200000 allows is (200000 - 5 - 300) / 550, rounded up.
+        int[] counts = {10, 300, -7, 1, 8, 2, 1, 1, -36, 4345, 14};
+        for (int what = 0; what < counts.length; what++) {
+            Due.due(when + ": count(" + what + ")", x.count(what), counts[what]);
+        }
+        Due.due(when + ": weight", x.kind(3, 0), 500);
+        Due.due(when + ": spread", x.kind(3, 1), 50);
+        int[] customer = {408, 3, 400, 200000, 364};
+        for (int what = 0; what < customer.length; what++) {
+            Due.due(when + ": customer(1, " + what + ")", x.customer(1, what), customer[what]);
+        }
+        int[] prize = {7, 10, 14, 25, 13, 15, 3};
+        for (int what = 0; what < prize.length; what++) {
+            Due.due(when + ": prize(0, " + what + ")", x.prize(0, what), prize[what]);
+        }
+    }
+
+    private static void changeAll(TicketScales x) {
+        x.setKind(3, 600, 5);
+        x.setScale(11, 299);
+        x.setBias(6);
+        x.setRule(2);
+        x.setFee(9);
+        x.weigh(0, 0, 3, 1);
+        x.claim(1, 390);
+        x.come(5);
+        x.leave(1);
+        x.setPrice(0, 8);
+        x.buy(0, 0, 3);
+        x.addPrize(1, 2, 3, 4, 5);
+        x.removePrize(0);
+    }
+
+    /** undo() and restore() bring each number back, also one that the rows at hand have never had. */
+    private static void everyNumberIsBroughtBack() {
+        isUnlikeNew(unlikeNew(), "at once");
+        int[][] arguments = {{3, 700, 7}, {7, 9}, {5}, {3}, {99}, {6}, {1}, {1, 0, 300, -2900}, {1, 390}, {2, 3, 4, 5, 6}, {0}, {0, 77},
+            {0, 0, 3}, {0}, {1}, {}};
+        for (int i = 0; i < ACTIONS.length; i++) {
+            TicketScales x = unlikeNew();
+            x.take(1);
+            Due.isTrue(ACTIONS[i] + " succeeds", Calls.answer(x, ACTIONS[i], arguments[i]) > -1000);
+            Due.due("undo() of " + ACTIONS[i], x.undo(), 4);
+            isUnlikeNew(x, "behind undo() of " + ACTIONS[i]);
+        }
+        for (int slot = 0; slot < 2; slot++) {
+            TicketScales x = unlikeNew();
+            x.take(slot);
+            changeAll(x);
+            Due.due("restore", x.restore(slot), 4345);
+            isUnlikeNew(x, "behind restore()");
+            changeAll(x);
+            x.restore(slot);
+            isUnlikeNew(x, "behind restore() again");
+            x.setFee(1);
+            x.undo();
+            isUnlikeNew(x, "behind restore() and undo()");
+        }
+        TicketScales x = unlikeNew();
+        String text = "kind 3 600 5;rule 0;come 9;prize 9 9 9 9 9;weigh 0 0 9;claim 1 300;buy 0 0 3;scale 11 2;x";
+        Due.due("run", Due.run(x, text), -1000 - text.indexOf('x'));
+        Due.due("commands", x.failure(4), 8);
+        isUnlikeNew(x, "behind a run that failed");
+    }
+
     /** "nothing else changes": the text, the failure and the other snapshot stay, the history but for this action. */
     private static void nothingElseChanges() {
         TicketScales x = new TicketScales();
@@ -369,6 +453,26 @@ public final class StateEdgesTest {
         Due.due("fee", x.count(4), 9);
         Due.due("restore(0)", x.restore(0), 1);
         Due.due("fee", x.count(4), 5);
+        aSnapshotThatWasUndoneStaysAway();
+    }
+
+    private static void aSnapshotThatWasUndoneStaysAway() {
+        for (int actions = 0; actions <= 7; actions++) {
+            TicketScales x = new TicketScales();
+            x.take(0);
+            x.take(1);
+            x.undo();
+            x.undo();
+            for (int i = 0; i < actions; i++) {
+                x.setFee(i);
+                Due.due("snapshots", x.count(11), 0);
+            }
+            for (int i = Math.min(5, actions); i > 0; i--) {
+                x.undo();
+                Due.due("snapshots behind undo()", x.count(11), 0);
+                Due.due("the slot is empty", x.restore(i % 2), Due.STATE);
+            }
+        }
     }
 
     private static void theTextAndTheFailureDoNot() {

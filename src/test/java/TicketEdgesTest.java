@@ -15,6 +15,7 @@ public final class TicketEdgesTest {
         theBiasIsInTheReading();
         aReadingOfLessThanNothing();
         everyBiasUpToTheLimit();
+        oddSteps();
         noTicketsAtAll();
         readingsBetweenTheSteps();
         noCountBetween();
@@ -247,6 +248,30 @@ public final class TicketEdgesTest {
         noneAllowed(x, 3000);
         x.setScale(500, 2);
         allowed(x, 3000, 3, 3);
+    }
+
+    /** With an odd step no load is in the middle: as many loads below a multiple are read as it as above. */
+    private static void oddSteps() {
+        int[] steps = {3, 7, 99, 499};
+        for (int step : steps) {
+            int half = step / 2;
+            int reading = 10 * step;
+            int[] weights = {reading - half - 1, reading - half, reading, reading + half, reading + half + 1};
+            boolean[] isAllowed = {false, true, true, true, false};
+            for (int i = 0; i < weights.length; i++) {
+                if (weights[i] >= 100 && weights[i] <= 5000) {
+                    TicketScales x = with(weights[i], 0, step, 0);
+                    Due.due("step " + step + ", weight " + weights[i], x.allowed(reading, 0, 2), isAllowed[i] ? 1 : 0);
+                    Due.due("step " + step + ": read(" + weights[i] + ")", x.read(weights[i]) == reading ? 1 : 0, isAllowed[i] ? 1 : 0);
+                }
+            }
+        }
+        TicketScales x = with(100, 0, 99, 0);
+        allowed(x, 0, 0, 0);
+        x.setScale(199, 0);
+        allowed(x, 0, 0, 0);
+        x.setScale(201, 0);
+        allowed(x, 0, 0, 1);
     }
 
     /** "a count n (0 or more)" */
