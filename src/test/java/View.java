@@ -29,7 +29,7 @@ final class View {
         return text.toString();
     }
 
-    /** The same, and the numbers of snapshots and of states in the history, and the length of the text. */
+    /** What ofCounter() tells, the numbers of snapshots and of states in the history, and the length of the text. */
     static String of(TicketScales x) {
         return ofCounter(x) + "/ more " + x.count(11) + ' ' + x.count(12) + ' ' + x.count(13);
     }
@@ -43,7 +43,7 @@ final class View {
     }
 
     /**
-     * The same, and what lies behind it: each state of the history, both snapshots, and what the text does. Each
+     * What of() tells, and what lies behind it: each state of the history, both snapshots, and what the text does. Each
      * of them is looked at in an object of its own, as looking changes it.
      */
     static String ofAll(Supplier<TicketScales> made) {
